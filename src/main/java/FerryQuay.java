@@ -217,15 +217,17 @@ public final class FerryQuay {
         if (first == null || second == null) {
             return BAD;
         }
-        if (first.gate == null) {
+        Gate firstGate = first.gate;
+        if (firstGate == null) {
             return MISSING;
         }
-        first.gate.taken++;
-        if (second.gate == null) {
+        firstGate.taken++;
+        Gate secondGate = second.gate;
+        if (secondGate == null) {
             return MISSING;
         }
-        second.gate.taken++;
-        if (first.gate.isShut || second.gate.isShut) {
+        secondGate.taken++;
+        if (firstGate.isShut || secondGate.isShut) {
             return DENIED;
         }
         Ferry ferry = first.ferry;
@@ -241,11 +243,15 @@ public final class FerryQuay {
         int total = 0;
         for (int come = 0; come < most; come++) {
             Berth berth = berthAt(b + come);
-            if (berth == null || berth.gate == null) {
+            if (berth == null) {
                 return total;
             }
-            berth.gate.taken++;
-            if (berth.gate.isShut) {
+            Gate gate = berth.gate;
+            if (gate == null) {
+                return total;
+            }
+            gate.taken++;
+            if (gate.isShut) {
                 return alarm(DENIED);
             }
             total += berth.ferry.load;
