@@ -3,13 +3,13 @@ import java.util.List;
 import java.util.Random;
 
 /**
- * Runs of 512 made-up calls, from fixed seeds: each answer is held against a second telling of the
- * document, in which vehicles are objects and a stop is an exception, and all that can be told is
- * compared at each run's end.
+ * Runs of made-up calls, from fixed seeds: each answer is held against a second telling of the
+ * document, in which vehicles are objects and a stop is an exception; what can be told is compared
+ * at each run's end. An object gets no more calls than the document promises something for.
  */
 public final class ModelTest {
-    private static final int RUNS = 4000;
-    private static final int CALLS = 512;
+    private static final int RUNS = 12000;
+    private static final int MOST_CALLS = 512;
     private static final int NONE = -1, BAD = -2, FULL = -3, MISSING = -4, DENIED = -5, STALLED = -6;
 
     /** The call is over, with this answer. */
@@ -364,6 +364,7 @@ public final class ModelTest {
         39, 40, 41, 1000, 1001, 2000, 2001, 10000, 10001, Integer.MAX_VALUE};
 
     private static int wrong = 0;
+    private static int calls = 0;
 
     public static void main(String[] args) {
         for (int seed = 0; seed < RUNS && wrong == 0; seed++) {
@@ -382,7 +383,9 @@ public final class ModelTest {
         int heaviest = new int[] {3, 30, 300, 2000}[seed % 4];
         int zeros = new int[] {0, 5, 60}[seed % 3];
         int few = 1 + random.nextInt(4);
-        for (int i = 0; i < CALLS; i++) {
+        int made = 50 + random.nextInt(MOST_CALLS - 50);
+        calls = 0;
+        for (int i = 0; i < made; i++) {
             int which = i < 12 ? i % 4 == 3 ? 6 : i % 4 : draw(random);
             int p = first(random, which, few, heaviest);
             int q = second(random, which, few, heaviest, zeros);
@@ -396,10 +399,10 @@ public final class ModelTest {
             if (random.nextInt(40) == 0) {
                 r = edge(random);
             }
-            compare(seed, i, x, model, new int[] {which, p, q, r});
-            checkOnePlaceEach(seed, i, x);
+            compare(seed, x, model, which, p, q, r);
         }
-        compareAll(seed, x, model);
+        checkOnePlaceEach(seed, x, model);
+        compareTold(seed, x, model);
     }
 
     private static int draw(Random random) {
@@ -443,34 +446,65 @@ public final class ModelTest {
         }
     }
 
-    private static void compare(int seed, int at, FerryQuay x, Model model, int[] c) {
-        int want = model.call(c[0], c[1], c[2], c[3]);
-        int got = call(x, c[0], c[1], c[2], c[3]);
+    private static int compare(int seed, FerryQuay x, Model model, int which, int p, int q, int r) {
+        int want = model.call(which, p, q, r);
+        int got = call(x, which, p, q, r);
+        calls++;
         if (got != want) {
             wrong++;
-            System.out.println("seed " + seed + ", call " + at + ": " + NAMES[c[0]] + "(" + c[1] + ", " + c[2]
-                + ", " + c[3] + ") answered " + got + ", due is " + want);
+            System.out.println("seed " + seed + ", call " + calls + ": " + NAMES[which] + "(" + p + ", " + q
+                + ", " + r + ") answered " + got + ", due is " + want);
         }
+        return got;
     }
 
-    private static void checkOnePlaceEach(int seed, int at, FerryQuay x) {
-        int placed = x.count(4) + x.count(5);
-        for (int b = 0; b < x.count(2); b++) {
-            placed += x.state(b, 2) + x.state(b, 3);
+    private static void checkOnePlaceEach(int seed, FerryQuay x, Model model) {
+        if (calls + 3 + 2 * model.berths.size() > MOST_CALLS) {
+            return;
         }
-        if (placed != x.count(3)) {
+        int arrived = compare(seed, x, model, 18, 3, 0, 0);
+        int placed = compare(seed, x, model, 18, 4, 0, 0) + compare(seed, x, model, 18, 5, 0, 0);
+        for (int b = 0; b < model.berths.size(); b++) {
+            placed += compare(seed, x, model, 13, b, 2, 0) + compare(seed, x, model, 13, b, 3, 0);
+        }
+        if (placed != arrived) {
             wrong++;
-            System.out.println("seed " + seed + ", call " + at + ": " + x.count(3) + " arrived, but " + placed
-                + " are somewhere");
+            System.out.println("seed " + seed + ": " + arrived + " arrived, but " + placed + " are somewhere");
         }
     }
 
-    private static void compareAll(int seed, FerryQuay x, Model model) {
-        for (int p = -1; p <= 16; p++) {
-            for (int q = -1; q <= 41; q++) {
-                for (int which = 13; which <= 18; which++) {
-                    compare(seed, CALLS, x, model, new int[] {which, p, q, 0});
-                }
+    /** As much as the calls that are left allow, beginning with the berths on even seeds. */
+    private static void compareTold(int seed, FerryQuay x, Model model) {
+        boolean berthsFirst = seed % 2 == 0;
+        if (berthsFirst) {
+            compareBerths(seed, x, model);
+        }
+        compareEach(seed, x, model, 18, 7, 1);
+        compareEach(seed, x, model, 16, model.gates.size(), 3);
+        compareEach(seed, x, model, 17, model.ramps.size(), 3);
+        if (!berthsFirst) {
+            compareBerths(seed, x, model);
+        }
+    }
+
+    private static void compareBerths(int seed, FerryQuay x, Model model) {
+        compareEach(seed, x, model, 13, model.berths.size(), 6);
+        for (int b = 0; b < model.berths.size(); b++) {
+            compareRow(seed, x, model, 14, b, model.berths.get(b).lane.size());
+            compareRow(seed, x, model, 15, b, model.berths.get(b).ferry.aboard.size());
+        }
+    }
+
+    private static void compareRow(int seed, FerryQuay x, Model model, int which, int b, int size) {
+        for (int i = 0; i <= size && calls < MOST_CALLS; i++) {
+            compare(seed, x, model, which, b, i, 0);
+        }
+    }
+
+    private static void compareEach(int seed, FerryQuay x, Model model, int which, int many, int whats) {
+        for (int p = 0; p < many; p++) {
+            for (int q = 0; q < whats && calls < MOST_CALLS; q++) {
+                compare(seed, x, model, which, p, q, 0);
             }
         }
     }
