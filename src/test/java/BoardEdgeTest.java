@@ -11,7 +11,7 @@ public final class BoardEdgeTest {
 
     // ---- the gate
 
-    @Sentence("9: The GATE is TAKEN")
+    @Sentence(promise = 9, words = "The GATE is TAKEN")
     static void gateIsTakenOnceACall(Run x) {
         x.build(1, 100, 50);
         x.due(x.board(0, 1), 0);
@@ -21,7 +21,7 @@ public final class BoardEdgeTest {
         x.due(x.ofGate(0, 0), 2);
     }
 
-    @Sentence("9: is it SHUT, the answer is DENIED.")
+    @Sentence(promise = 9, words = "is it SHUT, the answer is DENIED.")
     static void shutIsDenied(Run x) {
         x.build(1, 100, 50);
         x.arriveAll(0, 0, 60, 5);
@@ -36,7 +36,7 @@ public final class BoardEdgeTest {
         x.due(x.board(0, 30), STALLED);
     }
 
-    @Sentence("9: is it SHUT, the answer is DENIED.")
+    @Sentence(promise = 9, words = "is it SHUT, the answer is DENIED.")
     static void shutIsDeniedWithAnEmptyLane(Run x) {
         x.build(1, 100, 50);
         x.shut(0, true);
@@ -44,7 +44,7 @@ public final class BoardEdgeTest {
         x.dueGate(0, 1, 0);
     }
 
-    @Sentence("9: is it SHUT, the answer is DENIED. Then ..: the RAMP is TAKEN")
+    @Sentence(promise = 9, words = "is it SHUT, the answer is DENIED. Then ..: the RAMP is TAKEN")
     static void shutGoesAheadOfNoRamp(Run x) {
         x.build(1, 100, 50);
         x.arrive(0, 5);
@@ -57,7 +57,7 @@ public final class BoardEdgeTest {
 
     // ---- the turns
 
-    @Sentence("9: so many times as there are vehicles in the LANE now")
+    @Sentence(promise = 9, words = "so many times as there are vehicles in the LANE now")
     static void eachOfTheLaneHasOneTurn(Run x) {
         x.build(1, 100, 50);
         x.arriveAll(0, 51, 52, 53);
@@ -66,7 +66,7 @@ public final class BoardEdgeTest {
         x.due(x.ofRamp(0, 0), 3);
     }
 
-    @Sentence("9: so many times as there are vehicles in the LANE now")
+    @Sentence(promise = 9, words = "so many times as there are vehicles in the LANE now")
     static void eachOfAFullLaneHasOneTurn(Run x) {
         x.build(1, 100, 50);
         for (int i = 0; i < 30; i++) {
@@ -83,7 +83,7 @@ public final class BoardEdgeTest {
         x.dueCounts(0, 0, 0);
     }
 
-    @Sentence("9: so many times as there are vehicles in the LANE now")
+    @Sentence(promise = 9, words = "so many times as there are vehicles in the LANE now")
     static void emptyLaneHasNoTurn(Run x) {
         x.build(1, 100, 50);
         x.due(x.board(0, 30), 0);
@@ -93,7 +93,7 @@ public final class BoardEdgeTest {
         x.due(x.board(0, 30), 0);
     }
 
-    @Sentence("9: the RAMP is TAKEN for the first vehicle of the LANE")
+    @Sentence(promise = 9, words = "the RAMP is TAKEN for the first vehicle of the LANE")
     static void rampIsTakenForEachTurn(Run x) {
         x.build(1, 100, 50);
         x.arriveAll(0, 10, 60, 20, 80, 30);
@@ -105,7 +105,8 @@ public final class BoardEdgeTest {
 
     // ---- WEIGHT 0
 
-    @Sentence("9: With WEIGHT 0 it is TOWED (gone from the LANE, and counted), and that is an ALARM: STALLED.")
+    @Sentence(promise = 9,
+        words = "With WEIGHT 0 it is TOWED (gone from the LANE, and counted), and that is an ALARM: STALLED.")
     static void weight0IsTowed(Run x) {
         x.build(1, 100, 50);
         x.arriveAll(0, 0, 5, 6);
@@ -117,7 +118,7 @@ public final class BoardEdgeTest {
         x.dueCounts(0, 1, 1);
     }
 
-    @Sentence("9: With WEIGHT 0 it is TOWED")
+    @Sentence(promise = 9, words = "With WEIGHT 0 it is TOWED")
     static void weight1IsNotTowed(Run x) {
         x.build(1, 100, 50);
         x.arrive(0, 1);
@@ -126,7 +127,7 @@ public final class BoardEdgeTest {
         x.dueCounts(0, 0, 0);
     }
 
-    @Sentence("9: that is an ALARM: STALLED. (what was done ahead of that stays)")
+    @Sentence(promise = 9, words = "that is an ALARM: STALLED.", here = "what was done ahead of that stays")
     static void whatWentAheadOfTheTowedStays(Run x) {
         x.build(1, 100, 50);
         x.arriveAll(0, 60, 10, 0, 20, 0);
@@ -142,7 +143,8 @@ public final class BoardEdgeTest {
         x.dueCounts(0, 2, 2);
     }
 
-    @Sentence("9: With WEIGHT 0 it is TOWED .. Would the FERRY's LOAD be above its ROOM with it, or are 40 aboard")
+    @Sentence(promise = 9,
+        words = "With WEIGHT 0 it is TOWED .. Would the FERRY's LOAD be above its ROOM with it, or are 40 aboard")
     static void towedThoughFerryIsFull(Run x) {
         x.build(1, 40, 50);
         for (int i = 0; i < 40; i++) {
@@ -158,7 +160,8 @@ public final class BoardEdgeTest {
 
     // ---- above the limit
 
-    @Sentence("9: Above the RAMP's LIMIT it goes to the end of the LANE, and the next one's turn comes.")
+    @Sentence(promise = 9,
+        words = "Above the RAMP's LIMIT it goes to the end of the LANE, and the next one's turn comes.")
     static void aboveTheLimitGoesToTheEnd(Run x) {
         x.build(1, 1000, 50);
         x.arriveAll(0, 51, 2000, 50, 49);
@@ -170,7 +173,7 @@ public final class BoardEdgeTest {
         x.dueCounts(0, 0, 0);
     }
 
-    @Sentence("9: Above the RAMP's LIMIT")
+    @Sentence(promise = 9, words = "Above the RAMP's LIMIT")
     static void theLimitItselfIsNotAbove(Run x) {
         x.build(1, 10000, 1000);
         x.arriveAll(0, 1000, 1001);
@@ -185,7 +188,8 @@ public final class BoardEdgeTest {
         x.dueLane(0, 1001, 2);
     }
 
-    @Sentence("9: Above the RAMP's LIMIT it goes to the end of the LANE .. Would the FERRY's LOAD be above its ROOM")
+    @Sentence(promise = 9,
+        words = "Above the RAMP's LIMIT it goes to the end of the LANE .. Would the FERRY's LOAD be above its ROOM")
     static void aboveTheLimitGoesAheadOfNoRoom(Run x) {
         x.build(1, 10, 50);
         x.arriveAll(0, 51, 11, 5);
@@ -194,7 +198,7 @@ public final class BoardEdgeTest {
         x.due(x.ofRamp(0, 0), 2);
     }
 
-    @Sentence("9: Above the RAMP's LIMIT it goes to the end of the LANE .. or are 40 aboard")
+    @Sentence(promise = 9, words = "Above the RAMP's LIMIT it goes to the end of the LANE .. or are 40 aboard")
     static void aboveTheLimitGoesAheadOf40Aboard(Run x) {
         x.build(1, 1000, 50);
         for (int i = 0; i < 40; i++) {
@@ -209,7 +213,8 @@ public final class BoardEdgeTest {
 
     // ---- no room
 
-    @Sentence("9: Would the FERRY's LOAD be above its ROOM with it, .. the call is over: how many went aboard.")
+    @Sentence(promise = 9,
+        words = "Would the FERRY's LOAD be above its ROOM with it, .. the call is over: how many went aboard.")
     static void aboveTheRoomEndsTheCall(Run x) {
         x.build(1, 10, 50);
         x.arriveAll(0, 4, 5, 2, 1);
@@ -221,7 +226,7 @@ public final class BoardEdgeTest {
         x.dueCounts(0, 0, 0);
     }
 
-    @Sentence("9: Would the FERRY's LOAD be above its ROOM with it")
+    @Sentence(promise = 9, words = "Would the FERRY's LOAD be above its ROOM with it")
     static void theRoomItselfIsNotAbove(Run x) {
         x.build(1, 10, 50);
         x.arriveAll(0, 4, 6, 1);
@@ -230,7 +235,7 @@ public final class BoardEdgeTest {
         x.dueLane(0, 1);
     }
 
-    @Sentence("9: Would the FERRY's LOAD be above its ROOM with it (ROOM 0)")
+    @Sentence(promise = 9, words = "Would the FERRY's LOAD be above its ROOM with it", here = "ROOM 0")
     static void room0TakesNobody(Run x) {
         x.build(1, 0, 50);
         x.arriveAll(0, 1, 2);
@@ -241,7 +246,7 @@ public final class BoardEdgeTest {
         x.dueRamp(0, 1, 0);
     }
 
-    @Sentence("9: Would the FERRY's LOAD be above its ROOM with it (ROOM 10000)")
+    @Sentence(promise = 9, words = "Would the FERRY's LOAD be above its ROOM with it", here = "ROOM 10000")
     static void room10000IsUsedUp(Run x) {
         x.build(1, 10000, 1000);
         x.arriveMany(0, 9, 1000);
@@ -253,7 +258,7 @@ public final class BoardEdgeTest {
         x.dueLane(0, 1);
     }
 
-    @Sentence("9: Would the FERRY's LOAD be above its ROOM with it")
+    @Sentence(promise = 9, words = "Would the FERRY's LOAD be above its ROOM with it")
     static void roomThatIsFreeAgainIsUsed(Run x) {
         x.build(1, 10, 50);
         x.arriveAll(0, 10, 10);
@@ -263,7 +268,7 @@ public final class BoardEdgeTest {
         x.dueAboard(0, 10);
     }
 
-    @Sentence("9: or are 40 aboard, the call is over: how many went aboard.")
+    @Sentence(promise = 9, words = "or are 40 aboard, the call is over: how many went aboard.")
     static void the41stStays(Run x) {
         x.build(1, 10000, 50);
         x.arriveMany(0, 30, 1);
@@ -285,7 +290,7 @@ public final class BoardEdgeTest {
 
     // ---- aboard
 
-    @Sentence("9: Else it goes aboard through the GATE, and the RAMP's WEAR is its WEIGHT more")
+    @Sentence(promise = 9, words = "Else it goes aboard through the GATE, and the RAMP's WEAR is its WEIGHT more")
     static void aboardThroughTheGate(Run x) {
         x.build(2, 100, 50);
         x.arriveAll(0, 50, 1);
@@ -300,7 +305,7 @@ public final class BoardEdgeTest {
         x.dueAboard(1);
     }
 
-    @Sentence("9: is it the n-th that did, the call is over: n.")
+    @Sentence(promise = 9, words = "is it the n-th that did, the call is over: n.")
     static void theNthEndsTheCall(Run x) {
         x.build(1, 100, 50);
         x.arriveAll(0, 10, 20, 30);
@@ -310,7 +315,8 @@ public final class BoardEdgeTest {
         x.dueRamp(0, 2, 30);
     }
 
-    @Sentence("9: is it the n-th that did, the call is over: n. (ahead of one to be TOWED)")
+    @Sentence(promise = 9, words = "is it the n-th that did, the call is over: n.",
+        here = "ahead of one to be TOWED")
     static void theNthEndsTheCallAheadOfWeight0(Run x) {
         x.build(1, 100, 50);
         x.arriveAll(0, 10, 0);
@@ -320,7 +326,8 @@ public final class BoardEdgeTest {
         x.dueCounts(0, 0, 0);
     }
 
-    @Sentence("9: is it the n-th that did, the call is over: n. (ahead of one above the LIMIT)")
+    @Sentence(promise = 9, words = "is it the n-th that did, the call is over: n.",
+        here = "ahead of one above the LIMIT")
     static void theNthEndsTheCallAheadOfAboveTheLimit(Run x) {
         x.build(1, 100, 50);
         x.arriveAll(0, 10, 51, 20);
@@ -329,7 +336,7 @@ public final class BoardEdgeTest {
         x.dueRamp(0, 1, 10);
     }
 
-    @Sentence("9: is it the n-th that did (those sent to the end did not)")
+    @Sentence(promise = 9, words = "is it the n-th that did", here = "those sent to the end did not")
     static void thoseSentToTheEndAreNotOfTheN(Run x) {
         x.build(1, 100, 50);
         x.arriveAll(0, 51, 52, 10, 20, 30);
@@ -338,7 +345,7 @@ public final class BoardEdgeTest {
         x.dueLane(0, 30, 51, 52);
     }
 
-    @Sentence("9: Behind all of them: how many went aboard.")
+    @Sentence(promise = 9, words = "Behind all of them: how many went aboard.")
     static void behindAllOfThem(Run x) {
         x.build(1, 100, 50);
         x.arriveAll(0, 51, 10, 52, 20);
@@ -350,7 +357,7 @@ public final class BoardEdgeTest {
 
     // ---- refused
 
-    @Sentence("9: BAD: b")
+    @Sentence(promise = 9, words = "BAD: b")
     static void badBerth(Run x) {
         x.buildBusy();
         List<Integer> before = x.all();
@@ -360,7 +367,7 @@ public final class BoardEdgeTest {
         x.dueUnchanged(before);
     }
 
-    @Sentence("9: BAD: .. n not 1 .. 30.")
+    @Sentence(promise = 9, words = "BAD: .. n not 1 .. 30.")
     static void badN(Run x) {
         x.buildBusy();
         List<Integer> before = x.all();
@@ -370,7 +377,7 @@ public final class BoardEdgeTest {
         x.dueUnchanged(before);
     }
 
-    @Sentence("9: n not 1 .. 30.")
+    @Sentence(promise = 9, words = "n not 1 .. 30.")
     static void nIs1Or30(Run x) {
         x.build(1, 100, 50);
         x.arriveMany(0, 30, 1);
@@ -380,7 +387,26 @@ public final class BoardEdgeTest {
         x.due(x.state(0, 3), 31);
     }
 
-    @Sentence("9: MISSING. (no GATE)")
+    @Sentence(promise = 9, words = "BAD: b, n not 1 .. 30. MISSING.", here = "BAD goes first")
+    static void badNGoesAheadOfMissing(Run x) {
+        x.berth(100);
+        x.due(x.board(0, 0), BAD);
+        x.due(x.board(0, 31), BAD);
+        x.due(x.board(0, 30), MISSING);
+    }
+
+    @Sentence(promise = 9, words = "is it SHUT, the answer is DENIED. .. BAD: b, n not 1 .. 30.",
+        here = "BAD goes first")
+    static void badNGoesAheadOfDenied(Run x) {
+        x.build(1, 100, 50);
+        x.shut(0, true);
+        x.due(x.board(0, 0), BAD);
+        x.due(x.board(0, 31), BAD);
+        x.dueGate(0, 0, 0);
+        x.due(x.board(0, 30), DENIED);
+    }
+
+    @Sentence(promise = 9, words = "MISSING.", here = "no GATE")
     static void noGateIsMissing(Run x) {
         x.build(1, 100, 50);
         x.arriveAll(0, 5, 0);
@@ -392,7 +418,7 @@ public final class BoardEdgeTest {
         x.dueCounts(0, 0, 0);
     }
 
-    @Sentence("9: MISSING. (no GATE, and nobody in the LANE)")
+    @Sentence(promise = 9, words = "MISSING.", here = "no GATE, and nobody in the LANE")
     static void noGateIsMissingWithAnEmptyLane(Run x) {
         x.build(1, 100, 50);
         x.hinge(0, NONE);
@@ -400,7 +426,7 @@ public final class BoardEdgeTest {
         x.dueRamp(0, 0, 0);
     }
 
-    @Sentence("9: MISSING. (no RAMP)")
+    @Sentence(promise = 9, words = "MISSING.", here = "no RAMP")
     static void noRampIsMissing(Run x) {
         x.build(1, 0, 50);
         x.arriveAll(0, 0, 5);

@@ -23,7 +23,7 @@ public final class LandEdgeTest {
 
     // ---- the ramp
 
-    @Sentence("10: The RAMP is TAKEN.")
+    @Sentence(promise = 10, words = "The RAMP is TAKEN.")
     static void rampIsTakenOnceACall(Run x) {
         buildAboard(x, 1, 2, 3);
         layLimit(x, 100);
@@ -35,7 +35,7 @@ public final class LandEdgeTest {
 
     // ---- the turns
 
-    @Sentence("10: Then n times")
+    @Sentence(promise = 10, words = "Then n times")
     static void nTimesAndNoMore(Run x) {
         buildAboard(x, 1, 2, 3, 4);
         layLimit(x, 100);
@@ -46,7 +46,7 @@ public final class LandEdgeTest {
         x.dueCounts(3, 0, 0);
     }
 
-    @Sentence("10: as long as there are vehicles aboard")
+    @Sentence(promise = 10, words = "as long as there are vehicles aboard")
     static void emptyFerryEndsTheCall(Run x) {
         buildAboard(x, 1, 2);
         layLimit(x, 100);
@@ -57,7 +57,7 @@ public final class LandEdgeTest {
         x.dueCounts(2, 0, 0);
     }
 
-    @Sentence("10: as long as there are vehicles aboard")
+    @Sentence(promise = 10, words = "as long as there are vehicles aboard")
     static void emptyFerryTakesNoGate(Run x) {
         x.build(1, 100, 50);
         x.due(x.land(0, 40), 0);
@@ -69,7 +69,7 @@ public final class LandEdgeTest {
         x.dueCounts(0, 0, 0);
     }
 
-    @Sentence("10: the GATE is TAKEN for the one that came last")
+    @Sentence(promise = 10, words = "the GATE is TAKEN for the one that came last")
     static void theLastComesFirst(Run x) {
         buildAboard(x, 5, 6, 7);
         layLimit(x, 100);
@@ -87,7 +87,7 @@ public final class LandEdgeTest {
 
     // ---- a shut gate
 
-    @Sentence("10: Is the GATE SHUT, the call is over: how many went ashore.")
+    @Sentence(promise = 10, words = "Is the GATE SHUT, the call is over: how many went ashore.")
     static void shutEndsTheCall(Run x) {
         buildAboard(x, 5, 6);
         x.shut(0, true);
@@ -98,7 +98,7 @@ public final class LandEdgeTest {
         x.dueCounts(0, 0, 0);
     }
 
-    @Sentence("10: Is the GATE SHUT, the call is over (nobody aboard takes it)")
+    @Sentence(promise = 10, words = "Is the GATE SHUT, the call is over", here = "nobody aboard takes it")
     static void shutIsNotSeenByAnEmptyFerry(Run x) {
         x.build(1, 100, 50);
         x.shut(0, true);
@@ -107,7 +107,8 @@ public final class LandEdgeTest {
         x.dueRamp(0, 1, 0);
     }
 
-    @Sentence("10: Is the GATE SHUT, the call is over .. Above the RAMP's LIMIT .. that is an ALARM")
+    @Sentence(promise = 10,
+        words = "Is the GATE SHUT, the call is over .. Above the RAMP's LIMIT .. that is an ALARM")
     static void shutGoesAheadOfAboveTheLimit(Run x) {
         buildAboard(x, 6);
         layLimit(x, 5);
@@ -121,7 +122,7 @@ public final class LandEdgeTest {
 
     // ---- above the limit
 
-    @Sentence("10: Above the RAMP's LIMIT (it stays aboard) that is an ALARM: STALLED.")
+    @Sentence(promise = 10, words = "Above the RAMP's LIMIT (it stays aboard) that is an ALARM: STALLED.")
     static void aboveTheLimitStaysAboard(Run x) {
         buildAboard(x, 5, 101);
         layLimit(x, 100);
@@ -132,7 +133,7 @@ public final class LandEdgeTest {
         x.dueCounts(0, 0, 1);
     }
 
-    @Sentence("10: that is an ALARM: STALLED. (what was done ahead of that stays)")
+    @Sentence(promise = 10, words = "that is an ALARM: STALLED.", here = "what was done ahead of that stays")
     static void thoseAheadOfTheStalledAreGone(Run x) {
         buildAboard(x, 5, 101, 60, 50);
         layLimit(x, 100);
@@ -143,7 +144,7 @@ public final class LandEdgeTest {
         x.dueCounts(2, 0, 1);
     }
 
-    @Sentence("10: Above the RAMP's LIMIT")
+    @Sentence(promise = 10, words = "Above the RAMP's LIMIT")
     static void theLimitItselfIsNotAbove(Run x) {
         buildAboard(x, 100);
         layLimit(x, 100);
@@ -152,7 +153,7 @@ public final class LandEdgeTest {
         x.dueCounts(1, 0, 0);
     }
 
-    @Sentence("10: Then n times (the n-th ends the call ahead of one above the LIMIT)")
+    @Sentence(promise = 10, words = "Then n times", here = "the n-th ends the call ahead of one above the LIMIT")
     static void theNthEndsTheCallAheadOfAboveTheLimit(Run x) {
         buildAboard(x, 101, 5);
         layLimit(x, 100);
@@ -164,7 +165,8 @@ public final class LandEdgeTest {
 
     // ---- half the limit
 
-    @Sentence("10: more than half the LIMIT .. it goes ashore, and is GONE (counted), but not through the GATE")
+    @Sentence(promise = 10,
+        words = "more than half the LIMIT .. it goes ashore, and is GONE (counted), but not through the GATE")
     static void aboveHalfTheLimitIsGoneBesideTheGate(Run x) {
         buildAboard(x, 51);
         layLimit(x, 100);
@@ -175,7 +177,8 @@ public final class LandEdgeTest {
         x.dueCounts(1, 0, 0);
     }
 
-    @Sentence("10: else it goes ashore through the GATE, and is GONE, and the RAMP's WEAR is its WEIGHT more.")
+    @Sentence(promise = 10,
+        words = "else it goes ashore through the GATE, and is GONE, and the RAMP's WEAR is its WEIGHT more.")
     static void halfTheLimitGoesThroughTheGate(Run x) {
         buildAboard(x, 50);
         layLimit(x, 100);
@@ -186,7 +189,7 @@ public final class LandEdgeTest {
         x.dueCounts(1, 0, 0);
     }
 
-    @Sentence("10: half the LIMIT (cut off)")
+    @Sentence(promise = 10, words = "half the LIMIT (cut off)")
     static void halfOfAnOddLimitIsCutOff(Run x) {
         buildAboard(x, 50, 51);
         layLimit(x, 101);
@@ -199,7 +202,7 @@ public final class LandEdgeTest {
         x.dueCounts(2, 0, 0);
     }
 
-    @Sentence("10: half the LIMIT (cut off) (a LIMIT of 1: 0)")
+    @Sentence(promise = 10, words = "half the LIMIT (cut off)", here = "a LIMIT of 1: 0")
     static void halfOf1Is0(Run x) {
         buildAboard(x, 1);
         layLimit(x, 1);
@@ -209,7 +212,7 @@ public final class LandEdgeTest {
         x.dueCounts(1, 0, 0);
     }
 
-    @Sentence("10: half the LIMIT (cut off) (a LIMIT of 1000: 500)")
+    @Sentence(promise = 10, words = "half the LIMIT (cut off)", here = "a LIMIT of 1000: 500")
     static void halfOf1000Is500(Run x) {
         buildAboard(x, 500, 501, 1000);
         x.due(x.land(0, 2), 2);
@@ -220,7 +223,7 @@ public final class LandEdgeTest {
         x.dueRamp(0, 5, 2501);
     }
 
-    @Sentence("10: but not through the GATE, and the next one's turn comes")
+    @Sentence(promise = 10, words = "but not through the GATE, and the next one's turn comes")
     static void theNextOnesTurnComes(Run x) {
         buildAboard(x, 10, 90, 20, 80, 100);
         layLimit(x, 100);
@@ -233,7 +236,7 @@ public final class LandEdgeTest {
 
     // ---- the answer
 
-    @Sentence("10: Behind all of them: how many went ashore.")
+    @Sentence(promise = 10, words = "Behind all of them: how many went ashore.")
     static void bothWaysAshoreAreTold(Run x) {
         buildAboard(x, 60, 50, 70, 40);
         layLimit(x, 100);
@@ -244,7 +247,7 @@ public final class LandEdgeTest {
 
     // ---- refused
 
-    @Sentence("10: BAD: b")
+    @Sentence(promise = 10, words = "BAD: b")
     static void badBerth(Run x) {
         x.buildBusy();
         List<Integer> before = x.all();
@@ -254,7 +257,7 @@ public final class LandEdgeTest {
         x.dueUnchanged(before);
     }
 
-    @Sentence("10: BAD: .. n not 1 .. 40.")
+    @Sentence(promise = 10, words = "BAD: .. n not 1 .. 40.")
     static void badN(Run x) {
         x.buildBusy();
         List<Integer> before = x.all();
@@ -264,7 +267,7 @@ public final class LandEdgeTest {
         x.dueUnchanged(before);
     }
 
-    @Sentence("10: n not 1 .. 40.")
+    @Sentence(promise = 10, words = "n not 1 .. 40.")
     static void nIs1Or40(Run x) {
         x.build(1, 10000, 1000);
         x.arriveMany(0, 30, 1);
@@ -279,13 +282,32 @@ public final class LandEdgeTest {
         x.dueCounts(41, 0, 0);
     }
 
-    @Sentence("10: n not 1 .. 40. (31 is fine here)")
+    @Sentence(promise = 10, words = "n not 1 .. 40.", here = "31, more than a LANE holds")
     static void nMayBeMoreThanALaneHolds(Run x) {
         buildAboard(x, 1, 2);
         x.due(x.land(0, 31), 2);
     }
 
-    @Sentence("10: MISSING. (no RAMP)")
+    @Sentence(promise = 10, words = "BAD: b, n not 1 .. 40. MISSING.", here = "BAD goes first")
+    static void badNGoesAheadOfMissing(Run x) {
+        x.berth(100);
+        x.due(x.land(0, 0), BAD);
+        x.due(x.land(0, 41), BAD);
+        x.due(x.land(0, 40), MISSING);
+    }
+
+    @Sentence(promise = 10, words = "Is the GATE SHUT, the call is over .. BAD: b, n not 1 .. 40.",
+        here = "BAD goes first")
+    static void badNGoesAheadOfShut(Run x) {
+        buildAboard(x, 5);
+        x.shut(0, true);
+        x.due(x.land(0, 0), BAD);
+        x.due(x.land(0, 41), BAD);
+        x.dueGate(0, 1, 1);
+        x.due(x.land(0, 40), 0);
+    }
+
+    @Sentence(promise = 10, words = "MISSING.", here = "no RAMP")
     static void noRampIsMissing(Run x) {
         buildAboard(x, 5, 6);
         x.lay(0, NONE);
@@ -295,7 +317,7 @@ public final class LandEdgeTest {
         x.dueCounts(0, 0, 0);
     }
 
-    @Sentence("10: MISSING. (no RAMP, and nobody aboard)")
+    @Sentence(promise = 10, words = "MISSING.", here = "no RAMP, and nobody aboard")
     static void noRampIsMissingWithAnEmptyFerry(Run x) {
         x.build(1, 100, 50);
         x.lay(0, NONE);
@@ -303,7 +325,8 @@ public final class LandEdgeTest {
         x.dueGate(0, 0, 0);
     }
 
-    @Sentence("10: The RAMP is TAKEN .. the GATE is TAKEN (no RAMP goes ahead of a SHUT GATE)")
+    @Sentence(promise = 10, words = "The RAMP is TAKEN .. the GATE is TAKEN",
+        here = "no RAMP goes ahead of a SHUT GATE")
     static void noRampGoesAheadOfShut(Run x) {
         buildAboard(x, 5, 6);
         x.lay(0, NONE);
@@ -312,7 +335,7 @@ public final class LandEdgeTest {
         x.dueGate(0, 1, 2);
     }
 
-    @Sentence("10: MISSING. (no GATE)")
+    @Sentence(promise = 10, words = "MISSING.", here = "no GATE")
     static void noGateIsMissing(Run x) {
         buildAboard(x, 5, 101);
         layLimit(x, 100);
@@ -323,7 +346,7 @@ public final class LandEdgeTest {
         x.dueCounts(0, 0, 0);
     }
 
-    @Sentence("10: MISSING. (neither)")
+    @Sentence(promise = 10, words = "MISSING.", here = "neither")
     static void neitherIsMissing(Run x) {
         buildAboard(x, 5);
         x.hinge(0, NONE);

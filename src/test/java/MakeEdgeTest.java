@@ -11,7 +11,7 @@ public final class MakeEdgeTest {
 
     // ---- promise 1
 
-    @Sentence("1: No GATES, RAMPS, BERTHS")
+    @Sentence(promise = 1, words = "No GATES, RAMPS, BERTHS")
     static void newHasNothing(Run x) {
         x.due(x.count(0), 0);
         x.due(x.count(1), 0);
@@ -23,14 +23,14 @@ public final class MakeEdgeTest {
         x.due(x.aboard(0, 0), BAD);
     }
 
-    @Sentence("1: nothing was counted.")
+    @Sentence(promise = 1, words = "nothing was counted.")
     static void newHasCountedNothing(Run x) {
         new Run().buildBusy();
         x.due(x.count(3), 0);
         x.dueCounts(0, 0, 0);
     }
 
-    @Sentence("1: No GATES, RAMPS, BERTHS")
+    @Sentence(promise = 1, words = "No GATES, RAMPS, BERTHS")
     static void newRefusesAllThatWantsOne(Run x) {
         x.due(x.hinge(0, NONE), BAD);
         x.due(x.lay(0, NONE), BAD);
@@ -47,7 +47,7 @@ public final class MakeEdgeTest {
 
     // ---- promise 2
 
-    @Sentence("2: A GATE: its number.")
+    @Sentence(promise = 2, words = "A GATE: its number.")
     static void gateTellsItsNumber(Run x) {
         x.ramp(5);
         x.ramp(5);
@@ -57,7 +57,7 @@ public final class MakeEdgeTest {
         x.due(x.count(0), 2);
     }
 
-    @Sentence("2: FULL.")
+    @Sentence(promise = 2, words = "FULL.")
     static void the17thGateIsFull(Run x) {
         for (int g = 0; g < 15; g++) {
             x.gate();
@@ -69,7 +69,7 @@ public final class MakeEdgeTest {
         x.dueUnchanged(before);
     }
 
-    @Sentence("2: FULL.")
+    @Sentence(promise = 2, words = "FULL.")
     static void fullGatesLeaveRoomForRampsAndBerths(Run x) {
         for (int g = 0; g < 17; g++) {
             x.gate();
@@ -82,7 +82,7 @@ public final class MakeEdgeTest {
 
     // ---- promise 3
 
-    @Sentence("3: BAD: limit.")
+    @Sentence(promise = 3, words = "BAD: limit.")
     static void limitTooSmall(Run x) {
         x.due(x.ramp(Run.LOW), BAD);
         x.due(x.ramp(-1), BAD);
@@ -91,7 +91,7 @@ public final class MakeEdgeTest {
         x.due(x.ramp(1), 0);
     }
 
-    @Sentence("3: BAD: limit.")
+    @Sentence(promise = 3, words = "BAD: limit.")
     static void limitTooLarge(Run x) {
         x.due(x.ramp(Run.HIGH), BAD);
         x.due(x.ramp(1001), BAD);
@@ -99,7 +99,7 @@ public final class MakeEdgeTest {
         x.due(x.ramp(1000), 0);
     }
 
-    @Sentence("3: FULL.")
+    @Sentence(promise = 3, words = "FULL.")
     static void the17thRampIsFull(Run x) {
         for (int r = 0; r < 15; r++) {
             x.ramp(5);
@@ -114,7 +114,7 @@ public final class MakeEdgeTest {
         x.due(x.lay(0, 15), NONE);
     }
 
-    @Sentence("3: BAD: limit. FULL. (BAD goes ahead of FULL)")
+    @Sentence(promise = 3, words = "BAD: limit. FULL.", here = "BAD goes ahead of FULL")
     static void badLimitAheadOfFull(Run x) {
         for (int r = 0; r < 16; r++) {
             x.ramp(5);
@@ -127,7 +127,7 @@ public final class MakeEdgeTest {
 
     // ---- promise 4
 
-    @Sentence("4: BAD: room.")
+    @Sentence(promise = 4, words = "BAD: room.")
     static void roomTooSmall(Run x) {
         x.due(x.berth(Run.LOW), BAD);
         x.due(x.berth(-1), BAD);
@@ -135,7 +135,7 @@ public final class MakeEdgeTest {
         x.due(x.berth(0), 0);
     }
 
-    @Sentence("4: BAD: room.")
+    @Sentence(promise = 4, words = "BAD: room.")
     static void roomTooLarge(Run x) {
         x.due(x.berth(Run.HIGH), BAD);
         x.due(x.berth(10001), BAD);
@@ -143,7 +143,7 @@ public final class MakeEdgeTest {
         x.due(x.berth(10000), 0);
     }
 
-    @Sentence("4: FULL.")
+    @Sentence(promise = 4, words = "FULL.")
     static void the9thBerthIsFull(Run x) {
         for (int b = 0; b < 7; b++) {
             x.berth(5);
@@ -158,7 +158,7 @@ public final class MakeEdgeTest {
         x.due(x.arrive(7, 5), 1);
     }
 
-    @Sentence("4: BAD: room. FULL. (BAD goes ahead of FULL)")
+    @Sentence(promise = 4, words = "BAD: room. FULL.", here = "BAD goes ahead of FULL")
     static void badRoomAheadOfFull(Run x) {
         for (int b = 0; b < 8; b++) {
             x.berth(5);
@@ -171,7 +171,7 @@ public final class MakeEdgeTest {
 
     // ---- promise 5
 
-    @Sentence("5: which one it had, or NONE.")
+    @Sentence(promise = 5, words = "which one it had, or NONE.")
     static void hingeTellsWhichItHad(Run x) {
         x.berth(5);
         for (int g = 0; g < 16; g++) {
@@ -183,7 +183,7 @@ public final class MakeEdgeTest {
         x.due(x.state(0, 0), 0);
     }
 
-    @Sentence("5: (NONE: none)")
+    @Sentence(promise = 5, words = "(NONE: none)")
     static void hingeNone(Run x) {
         x.build(2, 5, 5);
         x.hinge(1, 0);
@@ -196,7 +196,7 @@ public final class MakeEdgeTest {
         x.due(x.board(1, 1), 0);
     }
 
-    @Sentence("5: from now on")
+    @Sentence(promise = 5, words = "from now on")
     static void hingeCountsAtTheNewGateOnly(Run x) {
         x.build(1, 5, 5);
         x.gate();
@@ -207,7 +207,21 @@ public final class MakeEdgeTest {
         x.due(x.ofGate(1, 0), 1);
     }
 
-    @Sentence("5: BAD: b")
+    @Sentence(promise = 5, words = "BERTH b has GATE g (NONE: none) from now on", here = "the GATE stays as it was")
+    static void hingeKeepsWhatTheGateCounted(Run x) {
+        x.build(1, 100, 50);
+        x.arrive(0, 5);
+        x.board(0, 1);
+        x.shut(0, true);
+        x.hinge(0, 0);
+        x.dueGate(0, 1, 1);
+        x.hinge(0, NONE);
+        x.hinge(0, 0);
+        x.dueGate(0, 1, 1);
+        x.due(x.ofGate(0, 2), 1);
+    }
+
+    @Sentence(promise = 5, words = "BAD: b")
     static void hingeBadBerth(Run x) {
         x.build(2, 5, 5);
         List<Integer> before = x.all();
@@ -218,7 +232,7 @@ public final class MakeEdgeTest {
         x.dueUnchanged(before);
     }
 
-    @Sentence("5: BAD: .. g.")
+    @Sentence(promise = 5, words = "BAD: .. g.")
     static void hingeBadGate(Run x) {
         x.build(2, 5, 5);
         x.ramp(5);
@@ -233,7 +247,7 @@ public final class MakeEdgeTest {
 
     // ---- promise 6
 
-    @Sentence("6: which one it had, or NONE.")
+    @Sentence(promise = 6, words = "which one it had, or NONE.")
     static void layTellsWhichItHad(Run x) {
         x.berth(5);
         for (int r = 0; r < 16; r++) {
@@ -245,7 +259,7 @@ public final class MakeEdgeTest {
         x.due(x.state(0, 1), 0);
     }
 
-    @Sentence("6: (NONE: none)")
+    @Sentence(promise = 6, words = "(NONE: none)")
     static void layNone(Run x) {
         x.build(2, 5, 5);
         x.lay(1, 0);
@@ -258,7 +272,7 @@ public final class MakeEdgeTest {
         x.due(x.land(1, 1), 0);
     }
 
-    @Sentence("6: from now on")
+    @Sentence(promise = 6, words = "from now on")
     static void layCountsAtTheNewRampOnly(Run x) {
         x.build(1, 5, 5);
         x.ramp(5);
@@ -269,7 +283,19 @@ public final class MakeEdgeTest {
         x.due(x.ofRamp(1, 0), 1);
     }
 
-    @Sentence("6: BAD: b")
+    @Sentence(promise = 6, words = "BERTH b has RAMP r (NONE: none) from now on", here = "the RAMP stays as it was")
+    static void layKeepsWhatTheRampCounted(Run x) {
+        x.build(1, 100, 50);
+        x.arrive(0, 5);
+        x.board(0, 1);
+        x.lay(0, 0);
+        x.dueRamp(0, 1, 5);
+        x.lay(0, NONE);
+        x.lay(0, 0);
+        x.dueRamp(0, 1, 5);
+    }
+
+    @Sentence(promise = 6, words = "BAD: b")
     static void layBadBerth(Run x) {
         x.build(2, 5, 5);
         List<Integer> before = x.all();
@@ -280,7 +306,7 @@ public final class MakeEdgeTest {
         x.dueUnchanged(before);
     }
 
-    @Sentence("6: BAD: .. r.")
+    @Sentence(promise = 6, words = "BAD: .. r.")
     static void layBadRamp(Run x) {
         x.build(2, 5, 5);
         x.gate();
@@ -295,7 +321,7 @@ public final class MakeEdgeTest {
 
     // ---- promise 7
 
-    @Sentence("7: 1 if it was SHUT, else 0.")
+    @Sentence(promise = 7, words = "1 if it was SHUT, else 0.")
     static void shutTellsWhatItWas(Run x) {
         x.gate();
         x.gate();
@@ -309,7 +335,7 @@ public final class MakeEdgeTest {
         x.due(x.ofGate(1, 2), 1);
     }
 
-    @Sentence("7: BAD: g.")
+    @Sentence(promise = 7, words = "BAD: g.")
     static void shutBadGate(Run x) {
         x.build(1, 5, 5);
         x.ramp(5);
@@ -326,7 +352,7 @@ public final class MakeEdgeTest {
 
     // ---- promise 8
 
-    @Sentence("8: A vehicle comes to the end of BERTH b's LANE: how many are in it.")
+    @Sentence(promise = 8, words = "A vehicle comes to the end of BERTH b's LANE: how many are in it.")
     static void arriveAtTheEnd(Run x) {
         x.berth(5);
         x.berth(5);
@@ -338,7 +364,7 @@ public final class MakeEdgeTest {
         x.due(x.count(3), 3);
     }
 
-    @Sentence("8: BAD: b")
+    @Sentence(promise = 8, words = "BAD: b")
     static void arriveBadBerth(Run x) {
         x.berth(5);
         x.gate();
@@ -350,7 +376,7 @@ public final class MakeEdgeTest {
         x.dueUnchanged(before);
     }
 
-    @Sentence("8: BAD: .. weight.")
+    @Sentence(promise = 8, words = "BAD: .. weight.")
     static void arriveBadWeight(Run x) {
         x.berth(5);
         x.arrive(0, 5);
@@ -363,7 +389,7 @@ public final class MakeEdgeTest {
         x.due(x.arrive(0, 2000), 3);
     }
 
-    @Sentence("8: FULL.")
+    @Sentence(promise = 8, words = "FULL.")
     static void arriveFull(Run x) {
         x.berth(5);
         x.berth(5);
@@ -375,7 +401,7 @@ public final class MakeEdgeTest {
         x.due(x.arrive(1, 8), 1);
     }
 
-    @Sentence("8: FULL, when there is no room for one more.")
+    @Sentence(promise = 8, words = "FULL, when there is no room for one more.")
     static void arriveAgainWhenOneHasLeft(Run x) {
         x.build(2, 100, 50);
         x.arrive(0, 0);
@@ -395,7 +421,7 @@ public final class MakeEdgeTest {
         x.due(x.count(3), 33);
     }
 
-    @Sentence("8: BAD: b, weight. FULL. (BAD goes ahead of FULL)")
+    @Sentence(promise = 8, words = "BAD: b, weight. FULL.", here = "BAD goes ahead of FULL")
     static void badWeightAheadOfFull(Run x) {
         x.berth(5);
         x.arriveMany(0, 30, 5);
@@ -406,7 +432,7 @@ public final class MakeEdgeTest {
         x.due(x.arrive(0, 2000), FULL);
     }
 
-    @Sentence("8: A vehicle comes to the end of BERTH b's LANE")
+    @Sentence(promise = 8, words = "A vehicle comes to the end of BERTH b's LANE")
     static void arriveWantsNoGateNoRampNoRoom(Run x) {
         x.berth(0);
         x.due(x.arrive(0, 2000), 1);

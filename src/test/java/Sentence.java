@@ -3,9 +3,16 @@ import java.lang.annotation.Retention;
 import java.lang.annotation.RetentionPolicy;
 import java.lang.annotation.Target;
 
-/** The words of the document that a test would fail for if they were broken. */
+/** What a test holds the class to: it fails if these words of the document are broken. */
 @Retention(RetentionPolicy.RUNTIME)
 @Target(ElementType.METHOD)
 @interface Sentence {
-    String value();
+    /** 0: the document's "What it is" or "Terms". */
+    int promise() default 0;
+
+    /** The document's words; ".." stands for some that are left out. */
+    String words();
+
+    /** Which of the cases that the words cover, in our own words. */
+    String here() default "";
 }

@@ -15,9 +15,9 @@ final class Sentences {
             .filter(method -> method.isAnnotationPresent(Sentence.class))
             .sorted(Comparator.comparing(Method::getName))
             .collect(Collectors.toList());
-        long broken = all.stream().filter(test -> !holds(test)).count();
-        System.out.println(all.size() + " sentences, " + broken + " broken");
-        if (all.isEmpty() || broken != 0) {
+        long failed = all.stream().filter(test -> !holds(test)).count();
+        System.out.println(all.size() + " tests of sentences, " + failed + " failed");
+        if (all.isEmpty() || failed != 0) {
             System.exit(1);
         }
     }
@@ -32,9 +32,15 @@ final class Sentences {
             run.fail("is no test: " + unfit);
         }
         if (!run.isAsDue()) {
-            System.out.println(test.getName() + ": \"" + test.getAnnotation(Sentence.class).value() + "\"");
+            System.out.println(test.getName() + ": " + quote(test.getAnnotation(Sentence.class)));
             System.out.println(run.report());
         }
         return run.isAsDue();
+    }
+
+    private static String quote(Sentence sentence) {
+        String from = sentence.promise() == 0 ? "terms" : "promise " + sentence.promise();
+        String here = sentence.here().isEmpty() ? "" : " (" + sentence.here() + ")";
+        return from + ", \"" + sentence.words() + "\"" + here;
     }
 }

@@ -10,7 +10,8 @@ public final class ShiftEdgeTest {
 
     // ---- who goes
 
-    @Sentence("14: From BERTH b's LANE the first n vehicles go, one by one, to the end of BERTH c's")
+    @Sentence(promise = 14,
+        words = "From BERTH b's LANE the first n vehicles go, one by one, to the end of BERTH c's")
     static void theFirstNGoToTheEnd(Run x) {
         x.build(3, 100, 50);
         x.arriveAll(0, 1, 2, 3);
@@ -21,7 +22,7 @@ public final class ShiftEdgeTest {
         x.dueLane(2);
     }
 
-    @Sentence("14: the first n vehicles go (whatever they weigh, and no RAMP is TAKEN)")
+    @Sentence(promise = 14, words = "the first n vehicles go", here = "whatever they weigh, and no RAMP is TAKEN")
     static void anyWeightGoes(Run x) {
         x.build(2, 0, 1);
         x.arriveAll(0, 0, 2000, 1);
@@ -35,7 +36,7 @@ public final class ShiftEdgeTest {
         x.dueCounts(0, 0, 0);
     }
 
-    @Sentence("14: the first n vehicles go, one by one (30)")
+    @Sentence(promise = 14, words = "the first n vehicles go, one by one", here = "30")
     static void aWholeLaneGoes(Run x) {
         x.build(2, 100, 50);
         for (int i = 0; i < 30; i++) {
@@ -53,7 +54,7 @@ public final class ShiftEdgeTest {
 
     // ---- the gates
 
-    @Sentence("14: b's GATE is TAKEN, then, for each of them, c's GATE")
+    @Sentence(promise = 14, words = "b's GATE is TAKEN, then, for each of them, c's GATE")
     static void gatesAreTakenOnceAndForEach(Run x) {
         x.build(2, 100, 50);
         x.arriveAll(0, 1, 2, 3, 4);
@@ -62,7 +63,7 @@ public final class ShiftEdgeTest {
         x.due(x.ofGate(1, 0), 3);
     }
 
-    @Sentence("14: Is c's SHUT, the call is over: how many went")
+    @Sentence(promise = 14, words = "Is c's SHUT, the call is over: how many went")
     static void cShutEndsTheCall(Run x) {
         x.build(2, 100, 50);
         x.arriveAll(0, 1, 2);
@@ -75,7 +76,7 @@ public final class ShiftEdgeTest {
         x.dueCounts(0, 0, 0);
     }
 
-    @Sentence("14: are there 30 in c's LANE: likewise")
+    @Sentence(promise = 14, words = "are there 30 in c's LANE: likewise")
     static void cFullEndsTheCall(Run x) {
         x.build(2, 100, 50);
         x.arriveAll(0, 1, 2);
@@ -89,7 +90,7 @@ public final class ShiftEdgeTest {
         x.dueCounts(0, 0, 0);
     }
 
-    @Sentence("14: are there 30 in c's LANE: likewise (how many went)")
+    @Sentence(promise = 14, words = "are there 30 in c's LANE: likewise", here = "how many went")
     static void cFullOnTheWay(Run x) {
         x.build(2, 100, 50);
         x.arriveAll(0, 1, 2, 3);
@@ -104,7 +105,7 @@ public final class ShiftEdgeTest {
         x.dueGate(1, 3, 2);
     }
 
-    @Sentence("14: are there none left in b's: likewise (how many went)")
+    @Sentence(promise = 14, words = "are there none left in b's: likewise", here = "how many went")
     static void bEmptyOnTheWay(Run x) {
         x.build(2, 100, 50);
         x.arriveAll(0, 1, 2);
@@ -116,7 +117,7 @@ public final class ShiftEdgeTest {
         x.dueCounts(0, 0, 0);
     }
 
-    @Sentence("14: are there none left in b's: likewise")
+    @Sentence(promise = 14, words = "are there none left in b's: likewise")
     static void bEmptyAtFirst(Run x) {
         x.build(2, 100, 50);
         x.arrive(1, 7);
@@ -127,7 +128,7 @@ public final class ShiftEdgeTest {
         x.dueGate(1, 1, 0);
     }
 
-    @Sentence("14: Each goes through both GATES.")
+    @Sentence(promise = 14, words = "Each goes through both GATES.")
     static void eachPassesBothGates(Run x) {
         x.build(2, 100, 50);
         x.arriveAll(0, 1, 2, 3);
@@ -136,7 +137,7 @@ public final class ShiftEdgeTest {
         x.due(x.ofGate(1, 1), 2);
     }
 
-    @Sentence("14: Each goes through both GATES. (one and the same)")
+    @Sentence(promise = 14, words = "Each goes through both GATES.", here = "one and the same")
     static void eachPassesTheOneGateTwice(Run x) {
         x.build(2, 100, 50);
         x.hinge(1, 0);
@@ -148,7 +149,7 @@ public final class ShiftEdgeTest {
         x.dueGate(1, 0, 0);
     }
 
-    @Sentence("14: Behind all of them: how many went.")
+    @Sentence(promise = 14, words = "Behind all of them: how many went.")
     static void behindAllOfThem(Run x) {
         x.build(2, 100, 50);
         x.arriveAll(0, 1, 2);
@@ -160,7 +161,7 @@ public final class ShiftEdgeTest {
         x.due(x.shift(0, 1, 1), 0);
     }
 
-    @Sentence("14: Behind all of them: how many went. (to a LANE that is full then)")
+    @Sentence(promise = 14, words = "Behind all of them: how many went.", here = "to a LANE that is full then")
     static void theLastPlaceIsUsed(Run x) {
         x.build(2, 100, 50);
         x.arrive(0, 5);
@@ -174,7 +175,7 @@ public final class ShiftEdgeTest {
 
     // ---- refused
 
-    @Sentence("14: BAD: b")
+    @Sentence(promise = 14, words = "BAD: b")
     static void badB(Run x) {
         x.buildBusy();
         List<Integer> before = x.all();
@@ -185,7 +186,7 @@ public final class ShiftEdgeTest {
         x.dueUnchanged(before);
     }
 
-    @Sentence("14: BAD: .. c")
+    @Sentence(promise = 14, words = "BAD: .. c")
     static void badC(Run x) {
         x.buildBusy();
         List<Integer> before = x.all();
@@ -196,7 +197,7 @@ public final class ShiftEdgeTest {
         x.dueUnchanged(before);
     }
 
-    @Sentence("14: BAD: .. they are the same")
+    @Sentence(promise = 14, words = "BAD: .. they are the same")
     static void badSame(Run x) {
         x.buildBusy();
         List<Integer> before = x.all();
@@ -205,7 +206,7 @@ public final class ShiftEdgeTest {
         x.dueUnchanged(before);
     }
 
-    @Sentence("14: BAD: .. n not 1 .. 30.")
+    @Sentence(promise = 14, words = "BAD: .. n not 1 .. 30.")
     static void badN(Run x) {
         x.buildBusy();
         List<Integer> before = x.all();
@@ -215,7 +216,8 @@ public final class ShiftEdgeTest {
         x.dueUnchanged(before);
     }
 
-    @Sentence("14: BAD: b, c, they are the same; n not 1 .. 30. MISSING; b's GATE is SHUT: DENIED.")
+    @Sentence(promise = 14,
+        words = "BAD: b, c, they are the same; n not 1 .. 30. MISSING; b's GATE is SHUT: DENIED.")
     static void badGoesAheadOfMissingAndDenied(Run x) {
         x.build(2, 100, 50);
         x.arrive(0, 5);
@@ -232,7 +234,7 @@ public final class ShiftEdgeTest {
         x.dueGate(1, 0, 0);
     }
 
-    @Sentence("14: MISSING (b has no GATE)")
+    @Sentence(promise = 14, words = "MISSING", here = "b has no GATE")
     static void noGateAtB(Run x) {
         x.buildBusy();
         x.hinge(0, NONE);
@@ -241,7 +243,7 @@ public final class ShiftEdgeTest {
         x.dueUnchanged(before);
     }
 
-    @Sentence("14: MISSING (c has no GATE; what was done ahead of that stays)")
+    @Sentence(promise = 14, words = "MISSING", here = "c has no GATE; what was done ahead of that stays")
     static void noGateAtC(Run x) {
         x.build(2, 100, 50);
         x.arriveAll(0, 1, 2);
@@ -253,7 +255,7 @@ public final class ShiftEdgeTest {
         x.dueCounts(0, 0, 0);
     }
 
-    @Sentence("14: MISSING (c has no GATE; ahead of the look at the LANES)")
+    @Sentence(promise = 14, words = "MISSING", here = "c has no GATE; ahead of the look at the LANES")
     static void noGateAtCWithNobodyToGoOrNoPlace(Run x) {
         x.build(2, 100, 50);
         x.hinge(1, NONE);
@@ -264,7 +266,7 @@ public final class ShiftEdgeTest {
         x.dueGate(0, 2, 0);
     }
 
-    @Sentence("14: b's GATE is SHUT: DENIED.")
+    @Sentence(promise = 14, words = "b's GATE is SHUT: DENIED.")
     static void bShutIsDenied(Run x) {
         x.build(2, 100, 50);
         x.arriveAll(0, 1, 2);
@@ -277,7 +279,8 @@ public final class ShiftEdgeTest {
         x.dueCounts(0, 0, 0);
     }
 
-    @Sentence("14: b's GATE is SHUT: DENIED. (with nobody in b's LANE, and with c's SHUT too)")
+    @Sentence(promise = 14, words = "b's GATE is SHUT: DENIED.",
+        here = "with nobody in b's LANE, and with c's SHUT too")
     static void bShutIsDeniedWhateverElse(Run x) {
         x.build(2, 100, 50);
         x.shut(0, true);

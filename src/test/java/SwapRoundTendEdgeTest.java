@@ -19,7 +19,7 @@ public final class SwapRoundTendEdgeTest {
 
     // ---- promise 11: swap
 
-    @Sentence("11: The GATE of BERTH a, then that of b is TAKEN")
+    @Sentence(promise = 11, words = "The GATE of BERTH a, then that of b is TAKEN")
     static void swapTakesBothGates(Run x) {
         buildLoaded(x, 3);
         x.due(x.swap(0, 2), 4);
@@ -28,7 +28,7 @@ public final class SwapRoundTendEdgeTest {
         x.dueGate(2, 2, 1);
     }
 
-    @Sentence("11: (they may be one and the same ..)")
+    @Sentence(promise = 11, words = "(they may be one and the same ..)")
     static void swapWithOneGate(Run x) {
         buildLoaded(x, 2);
         x.hinge(1, 0);
@@ -39,7 +39,7 @@ public final class SwapRoundTendEdgeTest {
         x.dueGate(1, 1, 1);
     }
 
-    @Sentence("11: (.. a and b, too)")
+    @Sentence(promise = 11, words = "(.. a and b, too)")
     static void swapWithItself(Run x) {
         buildLoaded(x, 2);
         x.due(x.swap(1, 1), 2);
@@ -49,7 +49,7 @@ public final class SwapRoundTendEdgeTest {
         x.dueGate(1, 3, 1);
     }
 
-    @Sentence("11: Is one of them SHUT, the answer is DENIED. (that of a)")
+    @Sentence(promise = 11, words = "Is one of them SHUT, the answer is DENIED.", here = "that of a")
     static void swapWithAShut(Run x) {
         buildLoaded(x, 2);
         x.shut(0, true);
@@ -61,7 +61,7 @@ public final class SwapRoundTendEdgeTest {
         x.dueCounts(0, 0, 0);
     }
 
-    @Sentence("11: Is one of them SHUT, the answer is DENIED. (that of b)")
+    @Sentence(promise = 11, words = "Is one of them SHUT, the answer is DENIED.", here = "that of b")
     static void swapWithBShut(Run x) {
         buildLoaded(x, 2);
         x.shut(1, true);
@@ -73,7 +73,7 @@ public final class SwapRoundTendEdgeTest {
         x.dueCounts(0, 0, 0);
     }
 
-    @Sentence("11: Is one of them SHUT, the answer is DENIED. (both)")
+    @Sentence(promise = 11, words = "Is one of them SHUT, the answer is DENIED.", here = "both")
     static void swapWithBothShut(Run x) {
         buildLoaded(x, 2);
         x.shut(0, true);
@@ -85,7 +85,7 @@ public final class SwapRoundTendEdgeTest {
         x.dueCounts(0, 0, 0);
     }
 
-    @Sentence("11: Else the FERRIES, with all that is aboard, change places")
+    @Sentence(promise = 11, words = "Else the FERRIES, with all that is aboard, change places")
     static void swapTakesRoomAndVehiclesAlong(Run x) {
         x.build(1, 100, 50);
         x.berth(0);
@@ -107,7 +107,7 @@ public final class SwapRoundTendEdgeTest {
         x.due(x.state(1, 1), NONE);
     }
 
-    @Sentence("11: Else the FERRIES, with all that is aboard, change places (40 aboard)")
+    @Sentence(promise = 11, words = "Else the FERRIES, with all that is aboard, change places", here = "40 aboard")
     static void swapMovesAFullFerry(Run x) {
         x.build(2, 1000, 50);
         for (int i = 1; i <= 40; i++) {
@@ -126,7 +126,7 @@ public final class SwapRoundTendEdgeTest {
         x.dueAboard(0, 3);
     }
 
-    @Sentence("11: the LOAD at a then.")
+    @Sentence(promise = 11, words = "the LOAD at a then.")
     static void swapTellsTheLoadAtA(Run x) {
         buildLoaded(x, 3);
         x.due(x.swap(0, 1), 2);
@@ -135,7 +135,7 @@ public final class SwapRoundTendEdgeTest {
         x.due(x.swap(2, 2), 1);
     }
 
-    @Sentence("11: BAD: a")
+    @Sentence(promise = 11, words = "BAD: a")
     static void swapBadA(Run x) {
         buildLoaded(x, 2);
         x.shut(0, true);
@@ -149,7 +149,7 @@ public final class SwapRoundTendEdgeTest {
         x.dueUnchanged(before);
     }
 
-    @Sentence("11: BAD: .. b.")
+    @Sentence(promise = 11, words = "BAD: .. b.")
     static void swapBadB(Run x) {
         buildLoaded(x, 2);
         x.shut(0, true);
@@ -162,7 +162,7 @@ public final class SwapRoundTendEdgeTest {
         x.dueUnchanged(before);
     }
 
-    @Sentence("11: MISSING. (a has no GATE)")
+    @Sentence(promise = 11, words = "MISSING.", here = "a has no GATE")
     static void swapWithoutGateAtA(Run x) {
         buildLoaded(x, 2);
         x.hinge(0, NONE);
@@ -172,7 +172,7 @@ public final class SwapRoundTendEdgeTest {
         x.dueUnchanged(before);
     }
 
-    @Sentence("11: MISSING. (b has no GATE; what was done ahead of that stays)")
+    @Sentence(promise = 11, words = "MISSING.", here = "b has no GATE; what was done ahead of that stays")
     static void swapWithoutGateAtB(Run x) {
         buildLoaded(x, 2);
         x.hinge(1, NONE);
@@ -183,7 +183,8 @@ public final class SwapRoundTendEdgeTest {
         x.dueCounts(0, 0, 0);
     }
 
-    @Sentence("11: The GATE of BERTH a, then that of b is TAKEN .. Is one of them SHUT, the answer is DENIED.")
+    @Sentence(promise = 11,
+        words = "The GATE of BERTH a, then that of b is TAKEN .. Is one of them SHUT, the answer is DENIED.")
     static void swapMissingGoesAheadOfShut(Run x) {
         buildLoaded(x, 2);
         x.hinge(1, NONE);
@@ -194,7 +195,7 @@ public final class SwapRoundTendEdgeTest {
         x.due(x.ofGate(0, 0), 2);
     }
 
-    @Sentence("11: The GATE of BERTH a, then that of b is TAKEN (no RAMP)")
+    @Sentence(promise = 11, words = "The GATE of BERTH a, then that of b is TAKEN", here = "no RAMP")
     static void swapTakesNoRamp(Run x) {
         buildLoaded(x, 2);
         x.lay(0, NONE);
@@ -205,7 +206,7 @@ public final class SwapRoundTendEdgeTest {
 
     // ---- promise 12: round
 
-    @Sentence("12: A ROUND, at BERTH b first, with a total of 0.")
+    @Sentence(promise = 12, words = "A ROUND, at BERTH b first, with a total of 0.")
     static void roundBeginsAtB(Run x) {
         buildLoaded(x, 3);
         x.due(x.round(2, 1), 4);
@@ -216,7 +217,7 @@ public final class SwapRoundTendEdgeTest {
         x.dueGate(2, 2, 1);
     }
 
-    @Sentence("12: has it no GATE, the ROUND is over (that is not MISSING here)")
+    @Sentence(promise = 12, words = "has it no GATE, the ROUND is over (that is not MISSING here)")
     static void roundWithoutGateAtFirst(Run x) {
         buildLoaded(x, 3);
         x.hinge(0, NONE);
@@ -225,7 +226,7 @@ public final class SwapRoundTendEdgeTest {
         x.dueUnchanged(before);
     }
 
-    @Sentence("12: has it no GATE, the ROUND is over (.. The total.)")
+    @Sentence(promise = 12, words = "has it no GATE, the ROUND is over", here = "the total so far")
     static void roundWithoutGateLater(Run x) {
         buildLoaded(x, 4);
         x.hinge(2, NONE);
@@ -237,7 +238,7 @@ public final class SwapRoundTendEdgeTest {
         x.dueCounts(0, 0, 0);
     }
 
-    @Sentence("12: else that is TAKEN (and kept to the end of the ROUND).")
+    @Sentence(promise = 12, words = "else that is TAKEN (and kept to the end of the ROUND).")
     static void roundTakesOneGateForEachBerth(Run x) {
         buildLoaded(x, 4);
         x.hinge(1, 0);
@@ -248,7 +249,7 @@ public final class SwapRoundTendEdgeTest {
         x.dueGate(2, 2, 1);
     }
 
-    @Sentence("12: Is it SHUT, that is an ALARM: DENIED.")
+    @Sentence(promise = 12, words = "Is it SHUT, that is an ALARM: DENIED.")
     static void roundShutAtFirst(Run x) {
         buildLoaded(x, 2);
         x.shut(0, true);
@@ -258,7 +259,8 @@ public final class SwapRoundTendEdgeTest {
         x.dueCounts(0, 0, 1);
     }
 
-    @Sentence("12: Is it SHUT, that is an ALARM: DENIED. (what was done ahead of that stays)")
+    @Sentence(promise = 12, words = "Is it SHUT, that is an ALARM: DENIED.",
+        here = "what was done ahead of that stays")
     static void roundShutLater(Run x) {
         buildLoaded(x, 4);
         x.shut(2, true);
@@ -270,7 +272,8 @@ public final class SwapRoundTendEdgeTest {
         x.dueCounts(0, 0, 1);
     }
 
-    @Sentence("12: Is it SHUT, that is an ALARM: DENIED. (at the last BERTH, and at the last of most)")
+    @Sentence(promise = 12, words = "Is it SHUT, that is an ALARM: DENIED.",
+        here = "at the last BERTH, and at the last of most")
     static void roundShutAtTheLast(Run x) {
         buildLoaded(x, 2);
         x.shut(1, true);
@@ -279,7 +282,7 @@ public final class SwapRoundTendEdgeTest {
         x.dueCounts(0, 0, 2);
     }
 
-    @Sentence("12: The total is more by its FERRY's LOAD")
+    @Sentence(promise = 12, words = "The total is more by its FERRY's LOAD")
     static void roundAddsTheLoadOfTheFerryThatIsThere(Run x) {
         buildLoaded(x, 2);
         x.arrive(0, 100);
@@ -294,7 +297,7 @@ public final class SwapRoundTendEdgeTest {
         x.due(x.round(0, 2), 101);
     }
 
-    @Sentence("12: The total is more by its FERRY's LOAD (8 times 10000)")
+    @Sentence(promise = 12, words = "The total is more by its FERRY's LOAD", here = "8 times 10000")
     static void roundTellsTheLargestTotal(Run x) {
         x.build(8, 10000, 1000);
         for (int b = 0; b < 8; b++) {
@@ -304,7 +307,7 @@ public final class SwapRoundTendEdgeTest {
         x.due(x.round(0, 8), 80000);
     }
 
-    @Sentence("12: if so many BERTHS as most were come to .. the ROUND is over")
+    @Sentence(promise = 12, words = "if so many BERTHS as most were come to .. the ROUND is over")
     static void roundEndsWithMost(Run x) {
         buildLoaded(x, 4);
         x.due(x.round(0, 1), 1);
@@ -316,7 +319,8 @@ public final class SwapRoundTendEdgeTest {
         x.due(x.ofGate(3, 0), 1);
     }
 
-    @Sentence("12: if so many BERTHS as most were come to .. the ROUND is over (ahead of a SHUT one)")
+    @Sentence(promise = 12, words = "if so many BERTHS as most were come to .. the ROUND is over",
+        here = "ahead of a SHUT one")
     static void roundEndsWithMostAheadOfShut(Run x) {
         buildLoaded(x, 3);
         x.shut(2, true);
@@ -325,7 +329,7 @@ public final class SwapRoundTendEdgeTest {
         x.dueCounts(0, 0, 0);
     }
 
-    @Sentence("12: or this is the last one, the ROUND is over")
+    @Sentence(promise = 12, words = "or this is the last one, the ROUND is over")
     static void roundEndsWithTheLastBerth(Run x) {
         buildLoaded(x, 3);
         x.due(x.round(1, 8), 6);
@@ -335,7 +339,7 @@ public final class SwapRoundTendEdgeTest {
         x.due(x.ofGate(2, 0), 3);
     }
 
-    @Sentence("12: or this is the last one, the ROUND is over (of 8)")
+    @Sentence(promise = 12, words = "or this is the last one, the ROUND is over", here = "of 8")
     static void roundEndsWithThe8thBerth(Run x) {
         buildLoaded(x, 8);
         x.due(x.round(7, 8), 128);
@@ -347,7 +351,7 @@ public final class SwapRoundTendEdgeTest {
         x.due(x.ofGate(7, 0), 5);
     }
 
-    @Sentence("12: BAD: b")
+    @Sentence(promise = 12, words = "BAD: b")
     static void roundBadBerth(Run x) {
         buildLoaded(x, 2);
         x.shut(0, true);
@@ -360,7 +364,7 @@ public final class SwapRoundTendEdgeTest {
         x.dueUnchanged(before);
     }
 
-    @Sentence("12: BAD: .. most not 1 .. 8.")
+    @Sentence(promise = 12, words = "BAD: .. most not 1 .. 8.")
     static void roundBadMost(Run x) {
         buildLoaded(x, 2);
         x.shut(0, true);
@@ -372,7 +376,7 @@ public final class SwapRoundTendEdgeTest {
         x.dueUnchanged(before);
     }
 
-    @Sentence("12: BAD: b, most not 1 .. 8. (ahead of no GATE)")
+    @Sentence(promise = 12, words = "BAD: b, most not 1 .. 8.", here = "ahead of no GATE")
     static void roundBadGoesAheadOfNoGate(Run x) {
         x.berth(5);
         x.due(x.round(0, 0), BAD);
@@ -383,7 +387,7 @@ public final class SwapRoundTendEdgeTest {
 
     // ---- promise 13: tend
 
-    @Sentence("13: RAMP r is TAKEN")
+    @Sentence(promise = 13, words = "RAMP r is TAKEN")
     static void tendTakesTheRamp(Run x) {
         buildLoaded(x, 2);
         x.tend(1);
@@ -393,7 +397,7 @@ public final class SwapRoundTendEdgeTest {
         x.due(x.ofRamp(1, 0), 3);
     }
 
-    @Sentence("13: its WEAR is 0 then: what it was.")
+    @Sentence(promise = 13, words = "its WEAR is 0 then: what it was.")
     static void tendTellsTheWear(Run x) {
         buildLoaded(x, 2);
         x.land(1, 1);
@@ -406,7 +410,7 @@ public final class SwapRoundTendEdgeTest {
         x.due(x.count(6), 0);
     }
 
-    @Sentence("13: With a WEAR of 0 that is an ALARM: DENIED.")
+    @Sentence(promise = 13, words = "With a WEAR of 0 that is an ALARM: DENIED.")
     static void tendWithoutWear(Run x) {
         x.ramp(300);
         x.due(x.tend(0), DENIED);
@@ -417,7 +421,7 @@ public final class SwapRoundTendEdgeTest {
         x.due(x.count(6), 2);
     }
 
-    @Sentence("13: With a WEAR of 0 that is an ALARM: DENIED. (behind a tend)")
+    @Sentence(promise = 13, words = "With a WEAR of 0 that is an ALARM: DENIED.", here = "behind a tend")
     static void tendTwice(Run x) {
         buildLoaded(x, 1);
         x.due(x.tend(0), 1);
@@ -429,7 +433,7 @@ public final class SwapRoundTendEdgeTest {
         x.due(x.count(6), 1);
     }
 
-    @Sentence("13: BAD: r.")
+    @Sentence(promise = 13, words = "BAD: r.")
     static void tendBadRamp(Run x) {
         buildLoaded(x, 2);
         x.gate();

@@ -11,7 +11,7 @@ public final class TellEdgeTest {
 
     // ---- promise 15: state
 
-    @Sentence("15: what 0 its GATE (NONE)")
+    @Sentence(promise = 15, words = "what 0 its GATE (NONE)")
     static void stateGate(Run x) {
         x.build(2, 5, 5);
         x.due(x.state(1, 0), 1);
@@ -22,7 +22,7 @@ public final class TellEdgeTest {
         x.due(x.state(1, 1), 1);
     }
 
-    @Sentence("15: 1 its RAMP (NONE)")
+    @Sentence(promise = 15, words = "1 its RAMP (NONE)")
     static void stateRamp(Run x) {
         x.build(2, 5, 5);
         x.due(x.state(1, 1), 1);
@@ -33,7 +33,7 @@ public final class TellEdgeTest {
         x.due(x.state(1, 0), 1);
     }
 
-    @Sentence("15: 2 how many are in its LANE, 3 how many aboard, 4 the LOAD, 5 the ROOM.")
+    @Sentence(promise = 15, words = "2 how many are in its LANE, 3 how many aboard, 4 the LOAD, 5 the ROOM.")
     static void stateOfAnEmptyAndOfABusyBerth(Run x) {
         x.build(2, 700, 300);
         for (int b = 0; b < 2; b++) {
@@ -53,7 +53,7 @@ public final class TellEdgeTest {
         x.due(x.state(1, 4), 0);
     }
 
-    @Sentence("15: BAD: b")
+    @Sentence(promise = 15, words = "BAD: b")
     static void stateBadBerth(Run x) {
         x.buildBusy();
         for (int b : NO_BERTHS_OF_2) {
@@ -63,7 +63,7 @@ public final class TellEdgeTest {
         }
     }
 
-    @Sentence("15: BAD: .. what.")
+    @Sentence(promise = 15, words = "BAD: .. what.")
     static void stateBadWhat(Run x) {
         x.buildBusy();
         for (int what : new int[] {Run.LOW, -1, 6, Run.HIGH}) {
@@ -75,7 +75,7 @@ public final class TellEdgeTest {
 
     // ---- promise 16: waiting
 
-    @Sentence("16: The WEIGHT of vehicle i of BERTH b's LANE, from 0 on.")
+    @Sentence(promise = 16, words = "The WEIGHT of vehicle i of BERTH b's LANE, from 0 on.")
     static void waitingFrom0On(Run x) {
         x.build(2, 100, 50);
         x.arriveAll(0, 0, 2000, 5);
@@ -86,7 +86,7 @@ public final class TellEdgeTest {
         x.due(x.waiting(1, 0), 6);
     }
 
-    @Sentence("16: NONE: none such.")
+    @Sentence(promise = 16, words = "NONE: none such.")
     static void waitingNoneSuch(Run x) {
         x.buildBusy();
         x.dueLane(0, 30, 400);
@@ -95,7 +95,7 @@ public final class TellEdgeTest {
         }
     }
 
-    @Sentence("16: NONE: none such. (an empty LANE, and a full one)")
+    @Sentence(promise = 16, words = "NONE: none such.", here = "an empty LANE, and a full one")
     static void waitingNoneSuchInEmptyAndFullLane(Run x) {
         x.build(2, 100, 50);
         x.arriveMany(0, 30, 7);
@@ -106,7 +106,7 @@ public final class TellEdgeTest {
         x.due(x.waiting(1, 29), NONE);
     }
 
-    @Sentence("16: NONE: none such. (those that left)")
+    @Sentence(promise = 16, words = "NONE: none such.", here = "those that left")
     static void waitingNoMoreWhenGone(Run x) {
         x.build(2, 100, 50);
         x.arriveAll(0, 5, 6, 7, 0);
@@ -118,7 +118,7 @@ public final class TellEdgeTest {
         x.dueLane(0);
     }
 
-    @Sentence("16: BAD: b.")
+    @Sentence(promise = 16, words = "BAD: b.")
     static void waitingBadBerth(Run x) {
         x.buildBusy();
         for (int b : NO_BERTHS_OF_2) {
@@ -130,7 +130,7 @@ public final class TellEdgeTest {
 
     // ---- promise 17: aboard
 
-    @Sentence("17: from 0 on, in the order in which they came.")
+    @Sentence(promise = 17, words = "from 0 on, in the order in which they came.")
     static void aboardInOrder(Run x) {
         x.build(2, 100, 50);
         x.arriveAll(0, 9, 51, 3, 7);
@@ -142,7 +142,7 @@ public final class TellEdgeTest {
         x.due(x.aboard(1, 0), NONE);
     }
 
-    @Sentence("17: NONE: none such.")
+    @Sentence(promise = 17, words = "NONE: none such.")
     static void aboardNoneSuch(Run x) {
         x.build(2, 100, 50);
         x.arriveAll(0, 5, 6);
@@ -153,7 +153,7 @@ public final class TellEdgeTest {
         x.due(x.aboard(1, 0), NONE);
     }
 
-    @Sentence("17: NONE: none such. (a full FERRY)")
+    @Sentence(promise = 17, words = "NONE: none such.", here = "a full FERRY")
     static void aboardNoneSuchInAFullFerry(Run x) {
         x.build(1, 100, 50);
         for (int i = 0; i < 40; i++) {
@@ -165,7 +165,7 @@ public final class TellEdgeTest {
         x.due(x.aboard(0, -1), NONE);
     }
 
-    @Sentence("17: NONE: none such. (those that left)")
+    @Sentence(promise = 17, words = "NONE: none such.", here = "those that left")
     static void aboardNoMoreWhenGone(Run x) {
         x.build(2, 100, 50);
         x.arriveAll(0, 5, 6, 7);
@@ -179,7 +179,7 @@ public final class TellEdgeTest {
         x.dueAboard(1);
     }
 
-    @Sentence("17: BAD: b.")
+    @Sentence(promise = 17, words = "BAD: b.")
     static void aboardBadBerth(Run x) {
         x.buildBusy();
         for (int b : NO_BERTHS_OF_2) {
@@ -191,7 +191,7 @@ public final class TellEdgeTest {
 
     // ---- promise 18: ofGate
 
-    @Sentence("18: what 0 how often it was TAKEN, 1 how many PASSED, 2 1 if it is SHUT, else 0.")
+    @Sentence(promise = 18, words = "what 0 how often it was TAKEN, 1 how many PASSED, 2 1 if it is SHUT, else 0.")
     static void ofGateOfEachKind(Run x) {
         x.build(2, 100, 50);
         for (int what = 0; what <= 2; what++) {
@@ -208,7 +208,7 @@ public final class TellEdgeTest {
         }
     }
 
-    @Sentence("18: BAD: g")
+    @Sentence(promise = 18, words = "BAD: g")
     static void ofGateBadGate(Run x) {
         x.buildBusy();
         x.ramp(5);
@@ -222,7 +222,7 @@ public final class TellEdgeTest {
         x.due(x.ofGate(2, 0), 0);
     }
 
-    @Sentence("18: BAD: .. what.")
+    @Sentence(promise = 18, words = "BAD: .. what.")
     static void ofGateBadWhat(Run x) {
         x.buildBusy();
         for (int what : new int[] {Run.LOW, -1, 3, Run.HIGH}) {
@@ -234,7 +234,7 @@ public final class TellEdgeTest {
 
     // ---- promise 19: ofRamp
 
-    @Sentence("19: what 0 how often it was TAKEN, 1 its WEAR, 2 its LIMIT.")
+    @Sentence(promise = 19, words = "what 0 how often it was TAKEN, 1 its WEAR, 2 its LIMIT.")
     static void ofRampOfEachKind(Run x) {
         x.build(2, 100, 50);
         x.due(x.ofRamp(0, 0), 0);
@@ -249,7 +249,7 @@ public final class TellEdgeTest {
         x.due(x.ofRamp(1, 1), 0);
     }
 
-    @Sentence("19: BAD: r")
+    @Sentence(promise = 19, words = "BAD: r")
     static void ofRampBadRamp(Run x) {
         x.buildBusy();
         x.gate();
@@ -263,7 +263,7 @@ public final class TellEdgeTest {
         x.due(x.ofRamp(2, 0), 0);
     }
 
-    @Sentence("19: BAD: .. what.")
+    @Sentence(promise = 19, words = "BAD: .. what.")
     static void ofRampBadWhat(Run x) {
         x.buildBusy();
         for (int what : new int[] {Run.LOW, -1, 3, Run.HIGH}) {
@@ -275,7 +275,7 @@ public final class TellEdgeTest {
 
     // ---- promise 20: count
 
-    @Sentence("20: What 0: how many GATES, 1 RAMPS, 2 BERTHS there are")
+    @Sentence(promise = 20, words = "What 0: how many GATES, 1 RAMPS, 2 BERTHS there are")
     static void countOfWhatThereIs(Run x) {
         for (int i = 0; i < 17; i++) {
             x.due(x.count(0), Math.min(i, 16));
@@ -294,7 +294,7 @@ public final class TellEdgeTest {
         x.due(x.count(2), 8);
     }
 
-    @Sentence("20: 3 how many vehicles arrived, 4 are GONE, 5 were TOWED, 6 ALARMS.")
+    @Sentence(promise = 20, words = "3 how many vehicles arrived, 4 are GONE, 5 were TOWED, 6 ALARMS.")
     static void countOfWhatWasDone(Run x) {
         x.build(1, 1000, 100);
         x.arriveAll(0, 0, 51, 50, 0, 20, 10);
@@ -311,7 +311,8 @@ public final class TellEdgeTest {
         x.due(x.count(6), 3);
     }
 
-    @Sentence("20: 3 how many vehicles arrived (not those that were refused, shifted, or sent to the end)")
+    @Sentence(promise = 20, words = "3 how many vehicles arrived",
+        here = "not those that were refused, shifted, or sent to the end")
     static void countOfArrivedIsOfArriveAlone(Run x) {
         x.build(2, 1000, 100);
         x.arriveMany(0, 30, 101);
@@ -324,7 +325,7 @@ public final class TellEdgeTest {
         x.due(x.count(3), 30);
     }
 
-    @Sentence("20: BAD: what.")
+    @Sentence(promise = 20, words = "BAD: what.")
     static void countBadWhat(Run x) {
         x.buildBusy();
         for (int what : new int[] {Run.LOW, -1, 7, Run.HIGH}) {
@@ -334,7 +335,7 @@ public final class TellEdgeTest {
 
     // ---- all of them
 
-    @Sentence("---- what is told.")
+    @Sentence(words = "---- what is told.")
     static void tellingChangesNothing(Run x) {
         x.buildBusy();
         List<Integer> before = x.all();

@@ -11,7 +11,7 @@ public final class TermsEdgeTest {
 
     // ---- how many, and how much
 
-    @Sentence("GATES (16 at most) are numbered from 0 on")
+    @Sentence(words = "GATES (16 at most) are numbered from 0 on")
     static void gates16AtMost(Run x) {
         for (int g = 0; g < 16; g++) {
             x.due(x.gate(), g);
@@ -20,7 +20,7 @@ public final class TermsEdgeTest {
         x.due(x.count(0), 16);
     }
 
-    @Sentence("one is open (at first) or SHUT")
+    @Sentence(words = "one is open (at first) or SHUT")
     static void gateIsOpenAtFirst(Run x) {
         x.gate();
         x.due(x.ofGate(0, 2), 0);
@@ -30,7 +30,7 @@ public final class TermsEdgeTest {
         x.due(x.ofGate(1, 2), 0);
     }
 
-    @Sentence("RAMPS (16 at most) are numbered likewise")
+    @Sentence(words = "RAMPS (16 at most) are numbered likewise")
     static void ramps16AtMost(Run x) {
         for (int r = 0; r < 16; r++) {
             x.due(x.ramp(5), r);
@@ -39,7 +39,7 @@ public final class TermsEdgeTest {
         x.due(x.count(1), 16);
     }
 
-    @Sentence("one has a LIMIT (1 .. 1000)")
+    @Sentence(words = "one has a LIMIT (1 .. 1000)")
     static void limitIs1To1000(Run x) {
         x.due(x.ramp(0), BAD);
         x.due(x.ramp(1), 0);
@@ -49,7 +49,7 @@ public final class TermsEdgeTest {
         x.due(x.ofRamp(1, 2), 1000);
     }
 
-    @Sentence("and a WEAR (0 at first)")
+    @Sentence(words = "and a WEAR (0 at first)")
     static void wearIs0AtFirst(Run x) {
         x.build(1, 100, 50);
         x.due(x.ofRamp(0, 1), 0);
@@ -60,7 +60,7 @@ public final class TermsEdgeTest {
         x.due(x.ofRamp(1, 1), 0);
     }
 
-    @Sentence("A vehicle is a WEIGHT, 0 .. 2000.")
+    @Sentence(words = "A vehicle is a WEIGHT, 0 .. 2000.")
     static void weightIs0To2000(Run x) {
         x.berth(0);
         x.due(x.arrive(0, -1), BAD);
@@ -70,7 +70,7 @@ public final class TermsEdgeTest {
         x.dueLane(0, 0, 2000);
     }
 
-    @Sentence("BERTHS (8 at most) are numbered likewise")
+    @Sentence(words = "BERTHS (8 at most) are numbered likewise")
     static void berths8AtMost(Run x) {
         for (int b = 0; b < 8; b++) {
             x.due(x.berth(5), b);
@@ -79,7 +79,7 @@ public final class TermsEdgeTest {
         x.due(x.count(2), 8);
     }
 
-    @Sentence("one has a GATE or none, a RAMP or none (none of both at first")
+    @Sentence(words = "one has a GATE or none, a RAMP or none (none of both at first")
     static void berthHasNeitherAtFirst(Run x) {
         x.build(1, 100, 50);
         x.berth(100);
@@ -89,7 +89,7 @@ public final class TermsEdgeTest {
         x.due(x.state(1, 1), NONE);
     }
 
-    @Sentence("one may be at several BERTHS")
+    @Sentence(words = "one may be at several BERTHS")
     static void oneGateAndRampAtAllBerths(Run x) {
         x.gate();
         x.ramp(50);
@@ -112,7 +112,7 @@ public final class TermsEdgeTest {
         }
     }
 
-    @Sentence("a LANE with at most 30 vehicles in a row")
+    @Sentence(words = "a LANE with at most 30 vehicles in a row")
     static void lane30AtMost(Run x) {
         x.berth(0);
         x.berth(0);
@@ -131,7 +131,7 @@ public final class TermsEdgeTest {
         }
     }
 
-    @Sentence("a FERRY with a ROOM (0 .. 10000)")
+    @Sentence(words = "a FERRY with a ROOM (0 .. 10000)")
     static void roomIs0To10000(Run x) {
         x.due(x.berth(-1), BAD);
         x.due(x.berth(0), 0);
@@ -141,7 +141,7 @@ public final class TermsEdgeTest {
         x.due(x.state(1, 5), 10000);
     }
 
-    @Sentence("and at most 40 vehicles aboard in the order in which they came")
+    @Sentence(words = "and at most 40 vehicles aboard in the order in which they came")
     static void aboard40AtMostInOrder(Run x) {
         x.build(1, 10000, 100);
         for (int i = 1; i <= 42; i++) {
@@ -156,7 +156,7 @@ public final class TermsEdgeTest {
         x.dueLane(0, 41, 42);
     }
 
-    @Sentence("its LOAD is what they weigh together")
+    @Sentence(words = "its LOAD is what they weigh together")
     static void loadIsTheirWeight(Run x) {
         x.build(1, 10000, 1000);
         x.due(x.state(0, 4), 0);
@@ -173,7 +173,7 @@ public final class TermsEdgeTest {
 
     // ---- to take
 
-    @Sentence("if it has none, the call is over at once, and its answer MISSING (what was done ahead of that stays)")
+    @Sentence(words = "if it has none, the call is over at once, and its answer MISSING (what was done ahead of that stays)")
     static void missingAndWhatWasDoneStays(Run x) {
         x.build(2, 100, 50);
         x.arriveAll(0, 10, 20);
@@ -194,7 +194,7 @@ public final class TermsEdgeTest {
         x.dueCounts(0, 0, 0);
     }
 
-    @Sentence("if it has none, the call is over at once")
+    @Sentence(words = "if it has none, the call is over at once")
     static void missingAtOnceTakesNothingMore(Run x) {
         x.build(2, 100, 50);
         x.arriveAll(0, 10, 20);
@@ -212,7 +212,7 @@ public final class TermsEdgeTest {
         x.dueUnchanged(before);
     }
 
-    @Sentence("else it is TAKEN, which is counted for each GATE and each RAMP")
+    @Sentence(words = "else it is TAKEN, which is counted for each GATE and each RAMP")
     static void takenIsCountedForEach(Run x) {
         x.build(3, 100, 50);
         x.arriveAll(1, 10, 20, 30);
@@ -228,7 +228,7 @@ public final class TermsEdgeTest {
         x.due(x.ofRamp(2, 0), 1);
     }
 
-    @Sentence("(it may be TAKEN again meanwhile, which is counted, too)")
+    @Sentence(words = "(it may be TAKEN again meanwhile, which is counted, too)")
     static void takenAgainMeanwhile(Run x) {
         x.build(3, 100, 50);
         x.hinge(1, 0);
@@ -244,7 +244,7 @@ public final class TermsEdgeTest {
         x.due(x.ofGate(0, 0), 10);
     }
 
-    @Sentence("A vehicle that goes through a GATE is counted there as PASSED.")
+    @Sentence(words = "A vehicle that goes through a GATE is counted there as PASSED.")
     static void passedIsCountedAtThatGate(Run x) {
         x.build(3, 100, 50);
         x.arriveAll(0, 5, 6, 7);
@@ -265,7 +265,7 @@ public final class TermsEdgeTest {
 
     // ---- an alarm
 
-    @Sentence("AN ALARM: the call is over at once, and its answer the one told there (what was done ahead of that stays)")
+    @Sentence(words = "AN ALARM: the call is over at once, and its answer the one told there (what was done ahead of that stays)")
     static void alarmEndsTheCallAndWhatWasDoneStays(Run x) {
         x.build(2, 100, 50);
         x.arriveAll(0, 10, 0, 20);
@@ -292,7 +292,7 @@ public final class TermsEdgeTest {
         x.dueCounts(1, 1, 4);
     }
 
-    @Sentence("ALARMS are one more.")
+    @Sentence(words = "ALARMS are one more.")
     static void eachAlarmIsOneMore(Run x) {
         x.build(1, 100, 50);
         x.arriveAll(0, 0, 0, 30);
@@ -314,7 +314,7 @@ public final class TermsEdgeTest {
         x.due(x.count(6), 5);
     }
 
-    @Sentence("AN ALARM: .. ALARMS are one more.")
+    @Sentence(words = "AN ALARM: .. ALARMS are one more.")
     static void otherStopsAreNoAlarms(Run x) {
         x.buildBusy();
         x.due(x.count(6), 1);
@@ -338,7 +338,7 @@ public final class TermsEdgeTest {
 
     // ---- BAD and FULL
 
-    @Sentence("BAD is the answer, and nothing changes, when a number is not as told")
+    @Sentence(words = "BAD is the answer, and nothing changes, when a number is not as told")
     static void badNumberChangesNothing(Run x) {
         x.buildBusy();
         List<Integer> before = x.all();
@@ -358,7 +358,7 @@ public final class TermsEdgeTest {
         x.dueUnchanged(before);
     }
 
-    @Sentence("BAD is the answer, and nothing changes, when .. there is no such GATE")
+    @Sentence(words = "BAD is the answer, and nothing changes, when .. there is no such GATE")
     static void noSuchGateChangesNothing(Run x) {
         x.buildBusy();
         List<Integer> before = x.all();
@@ -372,7 +372,7 @@ public final class TermsEdgeTest {
         x.dueUnchanged(before);
     }
 
-    @Sentence("BAD is the answer, and nothing changes, when .. there is no such .. RAMP")
+    @Sentence(words = "BAD is the answer, and nothing changes, when .. there is no such .. RAMP")
     static void noSuchRampChangesNothing(Run x) {
         x.buildBusy();
         List<Integer> before = x.all();
@@ -386,7 +386,7 @@ public final class TermsEdgeTest {
         x.dueUnchanged(before);
     }
 
-    @Sentence("BAD is the answer, and nothing changes, when .. there is no such .. BERTH")
+    @Sentence(words = "BAD is the answer, and nothing changes, when .. there is no such .. BERTH")
     static void noSuchBerthChangesNothing(Run x) {
         x.buildBusy();
         List<Integer> before = x.all();
@@ -410,7 +410,7 @@ public final class TermsEdgeTest {
         x.dueUnchanged(before);
     }
 
-    @Sentence("FULL, when there is no room for one more.")
+    @Sentence(words = "FULL, when there is no room for one more.")
     static void fullChangesNothing(Run x) {
         for (int i = 0; i < 16; i++) {
             x.gate();
@@ -430,7 +430,7 @@ public final class TermsEdgeTest {
         x.dueUnchanged(before);
     }
 
-    @Sentence("FULL, when there is no room for one more.")
+    @Sentence(words = "FULL, when there is no room for one more.")
     static void fullOnlyWithNoRoom(Run x) {
         for (int i = 0; i < 15; i++) {
             x.gate();
@@ -446,7 +446,7 @@ public final class TermsEdgeTest {
         x.due(x.arrive(0, 6), 30);
     }
 
-    @Sentence("BAD goes ahead of FULL")
+    @Sentence(words = "BAD goes ahead of FULL")
     static void badAheadOfFull(Run x) {
         for (int r = 0; r < 16; r++) {
             x.ramp(5);
@@ -463,7 +463,7 @@ public final class TermsEdgeTest {
         x.due(x.arrive(0, 2001), BAD);
     }
 
-    @Sentence("both ahead of all else")
+    @Sentence(words = "both ahead of all else")
     static void badAheadOfMissing(Run x) {
         x.build(2, 100, 50);
         x.berth(100);
@@ -478,7 +478,7 @@ public final class TermsEdgeTest {
         x.due(x.round(2, 9), BAD);
     }
 
-    @Sentence("both ahead of all else")
+    @Sentence(words = "both ahead of all else")
     static void badAheadOfShut(Run x) {
         x.build(2, 100, 50);
         x.arriveAll(0, 5, 6);
@@ -494,7 +494,7 @@ public final class TermsEdgeTest {
         x.dueUnchanged(before);
     }
 
-    @Sentence("both ahead of all else")
+    @Sentence(words = "both ahead of all else")
     static void badAheadOfAlarms(Run x) {
         x.build(1, 100, 50);
         x.arriveAll(0, 40, 0);
@@ -509,7 +509,7 @@ public final class TermsEdgeTest {
 
     // ---- what it is
 
-    @Sentence("each vehicle is in one place, whatever stops it on its way.")
+    @Sentence(words = "each vehicle is in one place, whatever stops it on its way.")
     static void eachVehicleIsInOnePlace(Run x) {
         x.build(2, 60, 50);
         x.arriveAll(0, 10, 51, 0, 20, 40, 5);
@@ -535,7 +535,7 @@ public final class TermsEdgeTest {
         x.dueCounts(1, 1, 2);
     }
 
-    @Sentence("An object is used for at most 512 calls after it has been made")
+    @Sentence(words = "An object is used for at most 512 calls after it has been made")
     static void the512thCallAnswersLikeTheFirst(Run x) {
         x.build(1, 1000, 300);
         int trips = 0;
