@@ -18,6 +18,9 @@ public final class FaceTest {
         "arrive(int,int)", "board(int,int)", "land(int,int)", "swap(int,int)", "round(int,int)", "tend(int)",
         "shift(int,int,int)", "state(int,int)", "waiting(int,int)", "aboard(int,int)", "ofGate(int,int)",
         "ofRamp(int,int)", "count(int)"};
+    /** The document's headings, and which of the face comes first behind each. */
+    private static final String[] HEADINGS = {"what there is", "what is done", "what is told"};
+    private static final String[] FIRST = {"gate()", "board(int,int)", "state(int,int)"};
     private static final String[] CONSTANTS = {"NONE", "BAD", "FULL", "MISSING", "DENIED", "STALLED"};
     private static final Pattern FORBIDDEN = Pattern.compile(
         "\\b(package|import|throws?|try|catch|finally|synchronized|assert|protected|native|volatile|\\w+Exact)\\b|->|::");
@@ -36,6 +39,7 @@ public final class FaceTest {
         checkMethods();
         checkConstants();
         checkNestedClasses();
+        checkHeadings();
         checkSource();
         System.out.println(wrong == 0 ? "the face is as due" : wrong + " things are not as due");
         if (wrong != 0) {
@@ -91,6 +95,22 @@ public final class FaceTest {
             due(nested.getName() + " is static", Modifier.isStatic(nested.getModifiers()), true);
             due(nested.getName() + " is public", Modifier.isPublic(nested.getModifiers()), false);
         }
+    }
+
+    private static void checkHeadings() throws IOException {
+        StringBuilder want = new StringBuilder();
+        for (String call : FACE) {
+            int heading = Arrays.asList(FIRST).indexOf(call);
+            want.append(heading < 0 ? "" : "---- " + HEADINGS[heading] + "\n");
+            want.append(call, 0, call.indexOf('(')).append('\n');
+        }
+        StringBuilder got = new StringBuilder();
+        Matcher matcher = Pattern.compile("// (---- what .*)|public int (\\w+)\\(")
+            .matcher(Files.readString(Path.of("src/main/java/FerryQuay.java")));
+        while (matcher.find()) {
+            got.append(matcher.group(1) == null ? matcher.group(2) : matcher.group(1)).append('\n');
+        }
+        due("the calls under their headings", got.toString(), want.toString());
     }
 
     private static void checkSource() throws IOException {

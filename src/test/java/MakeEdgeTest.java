@@ -401,7 +401,7 @@ public final class MakeEdgeTest {
         x.due(x.arrive(1, 8), 1);
     }
 
-    @Sentence(promise = 8, words = "FULL, when there is no room for one more.")
+    @Sentence(words = "FULL, when there is no room for one more.", here = "in the LANE, till one has left it")
     static void arriveAgainWhenOneHasLeft(Run x) {
         x.build(2, 100, 50);
         x.arrive(0, 0);
